@@ -452,6 +452,7 @@ public final class PromisesTest {
             check.due("mark(" + far + ")", x.mark(far), -1);
         }
         sixteenMarks();
+        markZero();
     }
 
     /** Only without any deposit can as many marks be used as there are places. */
@@ -473,6 +474,36 @@ public final class PromisesTest {
             check.due("mark(" + k + ") is less than the next", x.mark(k) < x.mark(k + 1), true);
         }
         check.due("mark(16)", x.mark(16), -1);
+        check.due("unspent(14)", x.unspent(14), false);
+        check.due("unspent(15) with 16 marks used", x.unspent(15), true);
+        check.due("balance(2)", x.balance(2), 5);
+    }
+
+    /** The number 0 is a mark like any other, and not used before it was used. */
+    private static void markZero() {
+        NotePool x = new NotePool();
+        int account = 0;
+        while (account < 4 && !depositWithMarkZero(x, account)) {
+            account++;
+        }
+        check.due("unspent(0) with the mark 0", x.unspent(0), true);
+        check.due("balance(" + account + ")", x.balance(account), 6);
+        check.due("load", x.load(0, 2, 6, 0, 0), 1);
+        check.due("the mark is 0", x.get(2), 0);
+        check.due("submit()", x.submit(), 1);
+        check.due("submit() again", x.submit(), -6);
+        check.due("mark(0)", x.mark(0), 0);
+        check.due("unspent(0)", x.unspent(0), false);
+    }
+
+    private static boolean depositWithMarkZero(NotePool x, int account) {
+        int inner = Reference.hashOf(Reference.hashOf(100 + account, 0), 6);
+        for (int nonce = 0; nonce < 65537; nonce++) {
+            if (Reference.hashOf(100 + account, Reference.hashOf(inner, nonce)) == 0) {
+                return x.deposit(account, 6, nonce) == 0;
+            }
+        }
+        return false;
     }
 
     private static void promise19Pool() {
