@@ -9,13 +9,11 @@ final class Forge {
         return cells;
     }
 
-    /** Takes these cells, settles those that the others ask for, and sets what is different. */
+    /** Takes these cells, settles those that the others ask for, and sets them all. */
     static void put(NotePool pool, int[] cells) {
         Reference.settle(cells);
         for (int cell = 1; cell < 125; cell++) {
-            if (pool.get(cell) != cells[cell]) {
-                pool.set(cell, cells[cell]);
-            }
+            pool.set(cell, cells[cell]);
         }
     }
 
@@ -49,6 +47,20 @@ final class Forge {
         throw new IllegalStateException("no such note");
     }
 
+    /**
+     * Spends a note that was never made: account 1's of 255 with the nonce 25352 has the commitment 0
+     * that every empty leaf shows. What is not paid to account 2 is withdrawn.
+     */
+    static void spendEmptyLeaf(NotePool pool, int place, int amount, int newNonce) {
+        int[] cells = new int[125];
+        cells[5] = 101;
+        cells[6] = 255;
+        cells[7] = 25352;
+        path(pool, cells, place);
+        pay(cells, Reference.hashOf(102, 0), amount, 255 - amount, newNonce);
+        put(pool, cells);
+    }
+
     /** The path of a place, the siblings taken from the tree as the pool shows it. */
     static void path(NotePool pool, int[] cells, int place) {
         for (int i = 0; i < 4; i++) {
@@ -66,6 +78,20 @@ final class Forge {
             }
         }
         return -1;
+    }
+
+    /** Deposits a note of 6 whose mark is 0, and answers its account. */
+    static int depositWithMarkZero(NotePool pool) {
+        for (int account = 0; account < 4; account++) {
+            int inner = Reference.hashOf(Reference.hashOf(100 + account, 0), 6);
+            for (int nonce = 0; nonce < 65537; nonce++) {
+                if (Reference.hashOf(100 + account, Reference.hashOf(inner, nonce)) == 0) {
+                    pool.deposit(account, 6, nonce);
+                    return account;
+                }
+            }
+        }
+        throw new IllegalStateException("no such note");
     }
 
     private Forge() {
