@@ -1,3 +1,5 @@
+import java.util.Arrays;
+
 /** The boundary cases of the promises 1 to 3 and 9 to 19, sentence by sentence. */
 public final class PoolBoundaryTest {
     private static final Check check = new Check();
@@ -497,6 +499,8 @@ public final class PoolBoundaryTest {
         }
         check.due("submit() when full", x.submit(), -7);
         check.due("used() after FULL", x.used(), 16);
+        check.due("unspent(14)", x.unspent(14), false);
+        check.due("unspent(15) with 16 marks used", x.unspent(15), true);
         x.load(0, 1, 9, 0, 0);
         check.due("submit() of a spent one", x.submit(), -6);
         check.due("used() after SPENT", x.used(), 16);
@@ -509,12 +513,34 @@ public final class PoolBoundaryTest {
         for (int count = 1; count <= 16; count++) {
             used[count - 1] = x.get(2);
             x.submit();
-            int[] sorted = java.util.Arrays.copyOf(used, count);
-            java.util.Arrays.sort(sorted);
+            int[] sorted = Arrays.copyOf(used, count);
+            Arrays.sort(sorted);
             for (int k = 0; k < count; k++) {
                 check.due("mark(" + k + ") of " + count, x.mark(k), sorted[k]);
             }
             x.load(count - 1, 1, 9, 0, count);
+        }
+        markOrderOfUse(true);
+        markOrderOfUse(false);
+    }
+
+    /** Four notes are spent, the one with the greatest or the one with the least mark first. */
+    private static void markOrderOfUse(boolean fallingOrder) {
+        NotePool x = Pools.withDeposits(4);
+        Integer[] places = {0, 1, 2, 3};
+        int[] marks = new int[4];
+        for (int place : places) {
+            marks[place] = x.hash(100 + place, x.commitment(place));
+        }
+        Arrays.sort(places, (a, b) -> fallingOrder ? marks[b] - marks[a] : marks[a] - marks[b]);
+        for (int place : places) {
+            x.load(place, 0, 10 + place, 0, 0);
+            check.due("submit()", x.submit() > 0, true);
+            check.due("the end where it stands", x.mark(fallingOrder ? 0 : x.used() - 1), marks[place]);
+        }
+        Arrays.sort(marks);
+        for (int k = 0; k < 4; k++) {
+            check.due("mark(" + k + ")", x.mark(k), marks[k]);
         }
     }
 

@@ -1,8 +1,9 @@
-/** Each promise of the document by itself: ordinary inputs, the edges it names, wrong inputs. */
+import java.util.TreeSet;
+
+/** Each promise of the document by itself, and how it works together with the others. */
 public final class PromisesTest {
     private static final Check check = new Check();
-    private static final int[] FAR = {Integer.MIN_VALUE, -65537, -2, -1, 1 << 20, Integer.MAX_VALUE};
-    private static final int NO_ONES_KEY = 12345;
+    private static final int[] FAR = Pools.FAR;
 
     public static void main(String[] args) {
         constants();
@@ -24,7 +25,6 @@ public final class PromisesTest {
         promise16Node();
         promises17And18Marks();
         promise19Pool();
-        refusedCallsChangeNothing();
         check.finish();
     }
 
@@ -104,15 +104,15 @@ public final class PromisesTest {
     }
 
     private static void promise4Load() {
-        NotePool x = new NotePool();
-        Reference r = new Reference();
-        for (int k = 0; k < 7; k++) {
-            x.deposit(k % 4, 10 * k, 1000 + k);
-            r.deposit(k % 4, 10 * k, 1000 + k);
-        }
         int[][] loads = {{5, 3, 45, 5, 65536}, {6, 0, 255, 255, 0}, {0, 1, 0, 0, 7}, {3, 2, 30, 1, 8}};
         int[] due = {1, 0, 1, 0};
         for (int i = 0; i < loads.length; i++) {
+            NotePool x = new NotePool();
+            Reference r = new Reference();
+            for (int k = 0; k < 7; k++) {
+                x.deposit(k % 4, 10 * k, 1000 + k);
+                r.deposit(k % 4, 10 * k, 1000 + k);
+            }
             int[] l = loads[i];
             check.due("load " + i, x.load(l[0], l[1], l[2], l[3], l[4]), due[i]);
             r.load(l[0], l[1], l[2], l[3], l[4]);
@@ -139,9 +139,8 @@ public final class PromisesTest {
     }
 
     private static void promise4LoadRefuses() {
-        NotePool x = new NotePool();
-        check.due("load without notes", x.load(0, 0, 0, 0, 0), -2);
-        makeOwnerlessNote(x);
+        check.due("load without notes", new NotePool().load(0, 0, 0, 0, 0), -2);
+        NotePool x = Pools.withOwnerless();
         check.due("the made note has no owner", x.owner(1), -1);
         check.due("load of no place", x.load(2, 0, 0, 0, 0), -2);
         check.due("load of no place, all wrong", x.load(2, 4, 256, 256, 65537), -2);
@@ -324,8 +323,7 @@ public final class PromisesTest {
     }
 
     private static void promises9To12Notes() {
-        NotePool x = new NotePool();
-        makeOwnerlessNote(x);
+        NotePool x = Pools.withOwnerless();
         check.due("notes()", x.notes(), 2);
         check.due("owner(0)", x.owner(0), 0);
         check.due("owner(1)", x.owner(1), -1);
@@ -333,7 +331,7 @@ public final class PromisesTest {
         check.due("value(1)", x.value(1), 33);
         check.due("commitment(0)", x.commitment(0),
                 new Reference.Note(Reference.hashOf(100, 0), 40, 8).commitment());
-        check.due("commitment(1)", x.commitment(1), new Reference.Note(NO_ONES_KEY, 33, 5).commitment());
+        check.due("commitment(1)", x.commitment(1), new Reference.Note(Pools.NO_ONES_KEY, 33, 5).commitment());
         for (int account = 1; account < 4; account++) {
             check.due("deposit", x.deposit(account, account, 0), account + 1);
             check.due("owner", x.owner(account + 1), account);
@@ -348,8 +346,7 @@ public final class PromisesTest {
     }
 
     private static void promises13And14Unspent() {
-        NotePool x = new NotePool();
-        makeOwnerlessNote(x);
+        NotePool x = Pools.withOwnerless();
         check.due("unspent(0), spent", x.unspent(0), false);
         check.due("unspent(1), no owner", x.unspent(1), false);
         check.due("unspent(2), no note", x.unspent(2), false);
@@ -429,7 +426,7 @@ public final class PromisesTest {
 
     private static void promises17And18Marks() {
         NotePool x = new NotePool();
-        java.util.TreeSet<Integer> due = new java.util.TreeSet<>();
+        TreeSet<Integer> due = new TreeSet<>();
         x.deposit(0, 77, 0);
         for (int place = 0; place < 15; place++) {
             x.load(place, (place + 1) % 4, 77, 0, 31 * place);
@@ -451,59 +448,6 @@ public final class PromisesTest {
         for (int far : FAR) {
             check.due("mark(" + far + ")", x.mark(far), -1);
         }
-        sixteenMarks();
-        markZero();
-    }
-
-    /** Only without any deposit can as many marks be used as there are places. */
-    private static void sixteenMarks() {
-        NotePool x = new NotePool();
-        int[] cells = new int[125];
-        cells[0] = 1;
-        Forge.emptyLeafNote(cells, 5);
-        Forge.path(x, cells, 0);
-        Forge.pay(cells, Reference.hashOf(101, 0), 5, 0, 1);
-        Forge.put(x, cells);
-        check.due("submit() of an empty leaf", x.submit(), 0);
-        for (int place = 0; place < 15; place++) {
-            check.due("load", x.load(place, 2, 5, 0, place), 1);
-            check.due("submit()", x.submit(), place + 1);
-        }
-        check.due("used()", x.used(), 16);
-        for (int k = 0; k < 15; k++) {
-            check.due("mark(" + k + ") is less than the next", x.mark(k) < x.mark(k + 1), true);
-        }
-        check.due("mark(16)", x.mark(16), -1);
-        check.due("unspent(14)", x.unspent(14), false);
-        check.due("unspent(15) with 16 marks used", x.unspent(15), true);
-        check.due("balance(2)", x.balance(2), 5);
-    }
-
-    /** The number 0 is a mark like any other, and not used before it was used. */
-    private static void markZero() {
-        NotePool x = new NotePool();
-        int account = 0;
-        while (account < 4 && !depositWithMarkZero(x, account)) {
-            account++;
-        }
-        check.due("unspent(0) with the mark 0", x.unspent(0), true);
-        check.due("balance(" + account + ")", x.balance(account), 6);
-        check.due("load", x.load(0, 2, 6, 0, 0), 1);
-        check.due("the mark is 0", x.get(2), 0);
-        check.due("submit()", x.submit(), 1);
-        check.due("submit() again", x.submit(), -6);
-        check.due("mark(0)", x.mark(0), 0);
-        check.due("unspent(0)", x.unspent(0), false);
-    }
-
-    private static boolean depositWithMarkZero(NotePool x, int account) {
-        int inner = Reference.hashOf(Reference.hashOf(100 + account, 0), 6);
-        for (int nonce = 0; nonce < 65537; nonce++) {
-            if (Reference.hashOf(100 + account, Reference.hashOf(inner, nonce)) == 0) {
-                return x.deposit(account, 6, nonce) == 0;
-            }
-        }
-        return false;
     }
 
     private static void promise19Pool() {
@@ -528,63 +472,6 @@ public final class PromisesTest {
         check.due("pool()", x.pool(), 155 + 12 * 255);
         x.deposit(2, 255, 0);
         check.due("pool() when full", x.pool(), 155 + 12 * 255);
-    }
-
-    private static void refusedCallsChangeNothing() {
-        for (int call = 0; call < 11; call++) {
-            NotePool x = new NotePool();
-            makeOwnerlessNote(x);
-            x.deposit(1, 20, 3);
-            x.load(2, 3, 20, 0, 6);
-            if (call == 10) {
-                x.submit();
-            }
-            String before = stateOf(x);
-            refusedCall(x, call);
-            check.same("state after refused call " + call, stateOf(x), before);
-        }
-    }
-
-    private static void refusedCall(NotePool x, int call) {
-        switch (call) {
-            case 0 -> check.due("deposit", x.deposit(4, 1, 1), -2);
-            case 1 -> check.due("deposit", x.deposit(0, 256, 1), -3);
-            case 2 -> check.due("deposit", x.deposit(0, 1, 65537), -3);
-            case 3 -> check.due("load", x.load(3, 0, 0, 0, 0), -2);
-            case 4 -> check.due("load", x.load(0, 4, 0, 0, 0), -2);
-            case 5 -> check.due("load", x.load(1, 0, 0, 0, 0), -1);
-            case 6 -> check.due("load", x.load(0, 0, 256, 0, 0), -3);
-            case 7 -> check.due("load", x.load(0, 0, 0, 0, 65537), -3);
-            case 8 -> check.due("set", x.set(0, 9), false);
-            case 9 -> check.due("set", x.set(9, 65537), false);
-            default -> check.due("submit", x.submit(), -6);
-        }
-    }
-
-    private static String stateOf(NotePool x) {
-        StringBuilder text = new StringBuilder();
-        for (int cell : Forge.cellsOf(x)) {
-            text.append(cell).append(' ');
-        }
-        text.append("| ").append(x.notes()).append(' ').append(x.used()).append(' ').append(x.pool());
-        for (int place = 0; place < 6; place++) {
-            text.append(" | ").append(x.commitment(place)).append(' ').append(x.owner(place));
-            text.append(' ').append(x.value(place)).append(' ').append(x.unspent(place));
-        }
-        for (int k = 0; k < 4; k++) {
-            text.append(" | ").append(x.balance(k)).append(' ').append(x.root(k)).append(' ').append(x.mark(k));
-        }
-        return text.toString();
-    }
-
-    /** Place 0: account 0's note of 40, spent; place 1: a note of 33 with a key of no account. */
-    private static void makeOwnerlessNote(NotePool x) {
-        x.deposit(0, 40, 8);
-        x.load(0, 1, 33, 7, 5);
-        int[] cells = Forge.cellsOf(x);
-        cells[8] = NO_ONES_KEY;
-        Forge.put(x, cells);
-        check.due("submit() for a key of no account", x.submit(), 1);
     }
 
     private static void sameCells(String when, NotePool x, Reference r) {

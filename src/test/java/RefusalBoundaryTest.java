@@ -33,22 +33,25 @@ public final class RefusalBoundaryTest {
         refused("deposit: all at once", -2, Pools::full, x -> x.deposit(4, 256, 65537));
     }
 
-    /** In the pool "busy" the places 0 .. 2 have notes, and the one at place 1 has no owner. */
+    /**
+     * In the pool "busy" the places 0 .. 2 have notes, the one at place 1 has no owner, and the vector
+     * is that of place 2: a refused call that wrote anything of another note would be seen.
+     */
     private static void loadRefusals() {
         refused("load: no note", -2, RefusalBoundaryTest::busy, x -> x.load(3, 0, 10, 0, 0));
-        refused("load: no payee", -2, RefusalBoundaryTest::busy, x -> x.load(2, 4, 10, 0, 0));
+        refused("load: no payee", -2, RefusalBoundaryTest::busy, x -> x.load(0, 4, 10, 0, 0));
         refused("load: no owner", -1, RefusalBoundaryTest::busy, x -> x.load(1, 0, 10, 0, 0));
-        refused("load: wrong amount", -3, RefusalBoundaryTest::busy, x -> x.load(2, 0, 256, 0, 0));
-        refused("load: wrong withdrawn", -3, RefusalBoundaryTest::busy, x -> x.load(2, 0, 0, 256, 0));
-        refused("load: wrong nonce", -3, RefusalBoundaryTest::busy, x -> x.load(2, 0, 12, 0, 65537));
+        refused("load: wrong amount", -3, RefusalBoundaryTest::busy, x -> x.load(0, 0, 256, 0, 0));
+        refused("load: wrong withdrawn", -3, RefusalBoundaryTest::busy, x -> x.load(0, 0, 0, 256, 0));
+        refused("load: wrong nonce", -3, RefusalBoundaryTest::busy, x -> x.load(0, 0, 12, 0, 65537));
         refused("load: no note, no payee", -2, RefusalBoundaryTest::busy, x -> x.load(-1, -1, 10, 0, 0));
         refused("load: no note, wrong amount", -2, RefusalBoundaryTest::busy, x -> x.load(3, 0, -1, 0, 0));
         refused("load: no note, wrong withdrawn", -2, RefusalBoundaryTest::busy, x -> x.load(3, 0, 0, -1, 0));
         refused("load: no note, wrong nonce", -2, RefusalBoundaryTest::busy, x -> x.load(3, 0, 0, 0, -1));
         refused("load: no payee, no owner", -2, RefusalBoundaryTest::busy, x -> x.load(1, 4, 33, 0, 0));
-        refused("load: no payee, wrong amount", -2, RefusalBoundaryTest::busy, x -> x.load(2, 4, 256, 0, 0));
-        refused("load: no payee, wrong withdrawn", -2, RefusalBoundaryTest::busy, x -> x.load(2, 4, 0, 256, 0));
-        refused("load: no payee, wrong nonce", -2, RefusalBoundaryTest::busy, x -> x.load(2, 4, 0, 0, 65537));
+        refused("load: no payee, wrong amount", -2, RefusalBoundaryTest::busy, x -> x.load(0, 4, 256, 0, 0));
+        refused("load: no payee, wrong withdrawn", -2, RefusalBoundaryTest::busy, x -> x.load(0, 4, 0, 256, 0));
+        refused("load: no payee, wrong nonce", -2, RefusalBoundaryTest::busy, x -> x.load(0, 4, 0, 0, 65537));
         refused("load: no owner, wrong amount", -1, RefusalBoundaryTest::busy, x -> x.load(1, 0, 256, 0, 0));
         refused("load: no owner, wrong withdrawn", -1, RefusalBoundaryTest::busy, x -> x.load(1, 0, 0, 256, 0));
         refused("load: no owner, wrong nonce", -1, RefusalBoundaryTest::busy, x -> x.load(1, 0, 0, 0, 65537));
@@ -144,7 +147,7 @@ public final class RefusalBoundaryTest {
 
     private static NotePool fullAndLoaded() {
         NotePool x = Pools.full();
-        x.load(15, 3, 25, 0, 1);
+        x.load(15, 3, 20, 5, 1);
         return x;
     }
 

@@ -1,3 +1,4 @@
+import java.util.Arrays;
 import java.util.Random;
 
 /** The boundary cases that the section "Terms" names, sentence by sentence. */
@@ -12,6 +13,8 @@ public final class TermsBoundaryTest {
     }
 
     private static void numbersAndAccounts() {
+        check.sentence("An object is used for at most 512 calls after it has been made",
+                TermsBoundaryTest::lastCalls);
         check.sentence("NUMBERS are 0 .. 65536", TermsBoundaryTest::numbers);
         check.sentence("all sums of them are taken modulo 65537", TermsBoundaryTest::sums);
         check.sentence("all differences of them are taken modulo 65537", TermsBoundaryTest::differences);
@@ -62,6 +65,17 @@ public final class TermsBoundaryTest {
         check.sentence("112: root = result of block 6. 113: mark = result of block 7. 114: new commitment = "
                 + "result of block 9", TermsBoundaryTest::resultConditions);
         check.sentence("The vector MEETS the conditions if all of them hold", TermsBoundaryTest::meets);
+    }
+
+    /** The 512th call is answered like any other. */
+    private static void lastCalls() {
+        NotePool x = Pools.withDeposits(4);
+        for (int call = 8; call < 509; call++) {
+            x.set(1 + call % 124, call);
+        }
+        check.due("call 510, load", x.load(3, 0, 13, 0, 1), 1);
+        check.due("call 511, fault", x.fault(), -1);
+        check.due("call 512, submit", x.submit(), 4);
     }
 
     private static void numbers() {
@@ -411,7 +425,7 @@ public final class TermsBoundaryTest {
         boolean[] seen = new boolean[115];
         int[] free = {5, 6, 7, 8, 10, 11, 12, 13, 14};
         for (int cell = 1; cell < 125; cell++) {
-            if (java.util.Arrays.binarySearch(free, cell) >= 0) {
+            if (Arrays.binarySearch(free, cell) >= 0) {
                 continue;
             }
             NotePool x = Pools.withDeposits(6);
