@@ -47,15 +47,17 @@ final class Forge {
         throw new IllegalStateException("no such note");
     }
 
-    /**
-     * Spends a note that was never made: account 1's of 255 with the nonce 25352 has the commitment 0
-     * that every empty leaf shows. What is not paid to account 2 is withdrawn.
-     */
-    static void spendEmptyLeaf(NotePool pool, int place, int amount, int newNonce) {
-        int[] cells = new int[125];
+    /** Account 1's note of 255 with the nonce 25352 has the commitment 0 that every empty leaf shows. */
+    static void emptyLeafNoteOfAccount1(int[] cells) {
         cells[5] = 101;
         cells[6] = 255;
         cells[7] = 25352;
+    }
+
+    /** Spends a note that was never made. What is not paid to account 2 is withdrawn. */
+    static void spendEmptyLeaf(NotePool pool, int place, int amount, int newNonce) {
+        int[] cells = new int[125];
+        emptyLeafNoteOfAccount1(cells);
         path(pool, cells, place);
         pay(cells, Reference.hashOf(102, 0), amount, 255 - amount, newNonce);
         put(pool, cells);

@@ -1,104 +1,152 @@
+import java.util.EnumMap;
+import java.util.Map;
 import java.util.Random;
+import java.util.TreeSet;
 
-/** Runs of up to 512 calls from fixed seeds, each answer held against the Reference. */
+/**
+ * Runs of 512 calls from fixed seeds, in any order and with any arguments, each answer held against the
+ * Reference. A run that never meets some answer would prove little, so what was answered is counted too.
+ */
 public final class RandomRunsTest {
-    private static final int RUNS = 400;
-    private static final int CALLS = 512;
-    private static final int WHOLE_VECTOR = 128;
-    private static final int[] EDGES = {-1, 0, 1, 2, 3, 4, 15, 16, 124, 125, 255, 256, 65536, 65537,
+    private static final int RUNS = 4000;
+    private static final int WHOLE_VECTOR = 130;
+    private static final int[] EDGES = {-2, -1, 0, 1, 2, 3, 4, 5, 15, 16, 17, 124, 125, 255, 256, 65535, 65536, 65537,
         Integer.MIN_VALUE, Integer.MAX_VALUE};
+    private static final Call[] QUESTIONS = {Call.HASH, Call.GET, Call.NOTES, Call.COMMITMENT, Call.OWNER, Call.VALUE,
+        Call.UNSPENT, Call.BALANCE, Call.ROOT, Call.NODE, Call.USED, Call.MARK, Call.POOL};
 
-    private final Check check;
+    private static final Check check = new Check();
+    private static final Map<Call, TreeSet<Integer>> ANSWERED = new EnumMap<>(Call.class);
+    private static final TreeSet<Integer> FAULTS = new TreeSet<>();
+
     private final Random random;
-    private final NotePool x = new NotePool();
-    private final Reference r = new Reference();
-    // What an object answers after its 512th call is free, so no run goes beyond it.
-    private int left = CALLS;
+    private final Twins twins = new Twins(check);
 
-    private RandomRunsTest(Check check, long seed) {
-        this.check = check;
+    private RandomRunsTest(long seed) {
         this.random = new Random(seed);
     }
 
     public static void main(String[] args) {
-        Check check = new Check();
-        int[] answers = new int[8];
+        for (Call call : Call.values()) {
+            ANSWERED.put(call, new TreeSet<>());
+        }
         for (int seed = 0; seed < RUNS && check.wrong() == 0; seed++) {
-            new RandomRunsTest(check, seed).run(answers);
+            new RandomRunsTest(seed).run(seed % 2 == 0);
         }
-        for (int code = 1; code < 8; code++) {
-            // A run that never meets some refusal of submit would prove little.
-            boolean reachable = code != 1 && code != 2;
-            check.due("submit answered -" + code + " at some time", answers[code] > 0, reachable);
+        if (check.wrong() == 0) {
+            everyAnswerWasMet();
         }
-        check.due("submit answered a place at some time", answers[0] > 0, true);
         check.finish();
     }
 
-    private void run(int[] answers) {
-        while (left > 0 && check.wrong() == 0) {
+    /** 0 stands for every answer that is not a constant of the face. */
+    private static void everyAnswerWasMet() {
+        Map<Call, String> due = new EnumMap<>(Call.class);
+        due.put(Call.DEPOSIT, "[-7, -3, -2, 0]");
+        due.put(Call.LOAD, "[-3, -2, -1, 0, 1]");
+        due.put(Call.SET, "[0, 1]");
+        due.put(Call.SUBMIT, "[-7, -6, -5, -4, -3, 0]");
+        due.put(Call.OWNER, "[-2, -1, 0]");
+        due.put(Call.UNSPENT, "[0, 1]");
+        for (Call call : new Call[] {Call.HASH, Call.GET, Call.FAULT, Call.ROOT, Call.NODE, Call.MARK}) {
+            due.put(call, "[-1, 0]");
+        }
+        for (Call call : new Call[] {Call.COMMITMENT, Call.VALUE, Call.BALANCE}) {
+            due.put(call, "[-2, 0]");
+        }
+        for (Call call : due.keySet()) {
+            check.same("what " + call + " answered at some time", ANSWERED.get(call).toString(), due.get(call));
+        }
+        check.due("conditions that were the first not to hold", FAULTS.size(), 115);
+    }
+
+    private void run(boolean wholeStateAtTheEnd) {
+        int end = wholeStateAtTheEnd ? Twins.STATE_CALLS : 0;
+        while (twins.left() > end && !twins.differ()) {
+            boolean wholeVector = twins.left() - end >= WHOLE_VECTOR;
             int choice = random.nextInt(100);
             if (choice < 8) {
-                deposit();
+                make(Call.DEPOSIT, pick(4), pick(256), random.nextInt(3) == 0 ? pick(65537) : pick(3));
             } else if (choice < 20) {
                 load();
             } else if (choice < 32) {
-                submit(answers);
+                make(Call.SUBMIT);
             } else if (choice < 45) {
-                set(random.nextInt(126), pick(65537));
-            } else if (choice < 47 && left >= WHOLE_VECTOR) {
+                set();
+            } else if (choice < 47 && wholeVector) {
                 forge();
-            } else if (choice < 52 && left >= WHOLE_VECTOR) {
-                undo();
+            } else if (choice < 52 && wholeVector) {
+                putRight();
             } else if (choice < 60) {
-                due("fault()", x.fault(), r.fault());
+                make(Call.FAULT);
             } else {
-                ask(random.nextInt(14));
+                ask(QUESTIONS[random.nextInt(QUESTIONS.length)]);
             }
+        }
+        if (wholeStateAtTheEnd && !twins.differ()) {
+            twins.sameState();
         }
     }
 
+    private void make(Call call, int... arguments) {
+        int due = twins.call(call, arguments);
+        boolean asItIs = due < 0 || call == Call.LOAD || call == Call.SET || call == Call.UNSPENT;
+        ANSWERED.get(call).add(asItIs ? due : 0);
+        if (call == Call.FAULT && due >= 0) {
+            FAULTS.add(due);
+        }
+    }
+
+    /** Mostly what fits, at times an edge of some range, and at times any int there is. */
     private int pick(int bound) {
-        return random.nextInt(12) == 0 ? EDGES[random.nextInt(EDGES.length)] : random.nextInt(bound);
-    }
-
-    private void due(String call, long got, long want) {
-        left--;
-        check.due(call, got, want);
-    }
-
-    private void deposit() {
-        int account = pick(4);
-        int value = pick(256);
-        int nonce = pick(3);
-        due("deposit(" + account + ", " + value + ", " + nonce + ")", x.deposit(account, value, nonce),
-                r.deposit(account, value, nonce));
+        return switch (random.nextInt(24)) {
+            case 0, 1 -> EDGES[random.nextInt(EDGES.length)];
+            case 2 -> random.nextInt();
+            default -> random.nextInt(bound);
+        };
     }
 
     private void load() {
-        int place = random.nextInt(10) == 0 ? pick(16) : random.nextInt(Math.max(1, r.notes()));
-        int payee = pick(4);
-        int value = Math.max(0, r.value(place));
+        int place = random.nextInt(10) == 0 ? pick(16) : random.nextInt(Math.max(1, twins.r.notes()));
+        int value = Math.max(0, twins.r.value(place));
         int amount = random.nextInt(8) == 0 ? pick(256) : random.nextInt(value + 1);
         int withdrawn = random.nextInt(8) == 0 ? pick(256) : value - amount;
-        int nonce = pick(65537);
-        due("load(" + place + ", " + payee + ", " + amount + ", " + withdrawn + ", " + nonce + ")",
-                x.load(place, payee, amount, withdrawn, nonce), r.load(place, payee, amount, withdrawn, nonce));
+        make(Call.LOAD, place, pick(4), amount, withdrawn, pick(65537));
     }
 
-    private void submit(int[] answers) {
-        int want = r.submit();
-        due("submit()", x.submit(), want);
-        answers[Math.max(0, -want)]++;
+    /** One more or one less in a cell, and 0 or 1, come nearest to holding by mistake. */
+    private void set() {
+        int cell = pick(125);
+        int number = switch (random.nextInt(4)) {
+            case 0 -> Math.max(0, twins.r.get(cell)) + 1 - 2 * random.nextInt(2);
+            case 1 -> random.nextInt(2);
+            default -> pick(65537);
+        };
+        make(Call.SET, cell, number);
     }
 
-    private void set(int cell, int number) {
-        due("set(" + cell + ", " + number + ")", x.set(cell, number) ? 1 : 0, r.set(cell, number) ? 1 : 0);
+    private void ask(Call call) {
+        int[] arguments = new int[call.arguments];
+        for (int i = 0; i < arguments.length; i++) {
+            arguments[i] = pick(boundOf(call, i));
+        }
+        make(call, arguments);
+    }
+
+    private int boundOf(Call call, int argument) {
+        return switch (call) {
+            case HASH -> 65537;
+            case GET -> 125;
+            case BALANCE, ROOT -> 4;
+            case NODE -> argument == 0 ? 5 : 16;
+            case MARK -> twins.r.used() + 1;
+            default -> 16;
+        };
     }
 
     /** Puts the vector right again, whatever its free cells hold. */
-    private void undo() {
-        int[] cells = r.v.clone();
+    private void putRight() {
+        int[] cells = twins.r.v.clone();
         for (int i = 15; i < 19; i++) {
             cells[i] &= 1;
         }
@@ -109,53 +157,43 @@ public final class RandomRunsTest {
 
     /** A vector that meets the conditions, with a path into the present tree but foreign numbers. */
     private void forge() {
-        if (r.notes() == 0) {
+        int place = random.nextInt(twins.r.notes() + 1);
+        if (place == 16) {
             return;
         }
-        int place = random.nextInt(r.notes());
-        Reference.Note note = r.made.get(place);
-        int[] cells = r.v.clone();
+        int[] cells = twins.r.v.clone();
+        if (place == twins.r.notes()) {
+            Forge.emptyLeafNoteOfAccount1(cells);
+        } else {
+            noteAt(place, cells);
+        }
+        for (int i = 0; i < 4; i++) {
+            cells[15 + i] = place >> i & 1;
+            cells[11 + i] = twins.call(Call.NODE, i, place >> i ^ 1);
+        }
+        int amount = random.nextInt(256);
+        if (random.nextInt(4) != 0) {
+            amount = Math.min(amount, cells[6]);
+        }
+        int key = random.nextInt(3) == 0 ? random.nextInt(65537) : Reference.hashOf(100 + random.nextInt(4), 0);
+        Forge.pay(cells, key, amount, Reference.mod(cells[6] - amount), random.nextInt(65537));
+        setAll(cells);
+    }
+
+    /** 279 is another secret with account 0's key. */
+    private void noteAt(int place, int[] cells) {
+        Reference.Note note = twins.r.made.get(place);
         cells[5] = note.owner() == 0 && random.nextBoolean() ? 279 : 100 + Math.max(0, note.owner());
         cells[6] = note.value();
         cells[7] = note.nonce();
-        Forge.path(x, cells, place);
-        left -= 4;
-        int amount = random.nextInt(256);
-        int key = random.nextInt(3) == 0 ? random.nextInt(65537) : Reference.hashOf(100 + random.nextInt(4), 0);
-        if (random.nextInt(4) != 0) {
-            amount = Math.min(amount, note.value());
-        }
-        Forge.pay(cells, key, amount, Reference.mod(note.value() - amount), random.nextInt(65537));
-        setAll(cells);
     }
 
     private void setAll(int[] cells) {
         Reference.settle(cells);
         for (int cell = 1; cell < 125; cell++) {
-            if (r.v[cell] != cells[cell]) {
-                set(cell, cells[cell]);
+            if (twins.r.v[cell] != cells[cell]) {
+                make(Call.SET, cell, cells[cell]);
             }
-        }
-    }
-
-    private void ask(int what) {
-        int k = pick(17);
-        int j = pick(17);
-        switch (what) {
-            case 0 -> due("hash(" + k * 4001 + ", " + j + ")", x.hash(k * 4001, j), r.hash(k * 4001, j));
-            case 1 -> due("get(" + (k * 8 + j) + ")", x.get(k * 8 + j), r.get(k * 8 + j));
-            case 2 -> due("notes()", x.notes(), r.notes());
-            case 3 -> due("commitment(" + k + ")", x.commitment(k), r.commitment(k));
-            case 4 -> due("owner(" + k + ")", x.owner(k), r.owner(k));
-            case 5 -> due("value(" + k + ")", x.value(k), r.value(k));
-            case 6 -> due("unspent(" + k + ")", x.unspent(k) ? 1 : 0, r.unspent(k) ? 1 : 0);
-            case 7 -> due("balance(" + k % 5 + ")", x.balance(k % 5), r.balance(k % 5));
-            case 8 -> due("root(" + k % 5 + ")", x.root(k % 5), r.root(k % 5));
-            case 9 -> due("node(" + k % 6 + ", " + j + ")", x.node(k % 6, j), r.node(k % 6, j));
-            case 10 -> due("node(0, " + j + ")", x.node(0, j), r.node(0, j));
-            case 11 -> due("used()", x.used(), r.used());
-            case 12 -> due("mark(" + k + ")", x.mark(k), r.mark(k));
-            default -> due("pool()", x.pool(), r.pool());
         }
     }
 }

@@ -4,6 +4,8 @@ import java.util.Random;
 /** The boundary cases that the section "Terms" names, sentence by sentence. */
 public final class TermsBoundaryTest {
     private static final Check check = new Check();
+    /** The cells that no condition is about by itself. */
+    private static final int[] FREE = {5, 6, 7, 8, 10, 11, 12, 13, 14};
 
     public static void main(String[] args) {
         numbersAndAccounts();
@@ -21,6 +23,8 @@ public final class TermsBoundaryTest {
         check.sentence("all products of them are taken modulo 65537", TermsBoundaryTest::products);
         check.sentence("x becomes the cube of (x + b + salt); the hash is x + a + b",
                 TermsBoundaryTest::hashes);
+        check.sentence("x is a at first; four times, for the SALTS 11, 222, 3333 and 44444 in this order",
+                TermsBoundaryTest::salts);
         check.sentence("ACCOUNTS 0 .. 3: account k has the SECRET 100 + k", TermsBoundaryTest::secrets);
         check.sentence("and as its KEY the hash of its secret and 0", TermsBoundaryTest::keys);
         check.sentence("its COMMITMENT is the hash of (the hash of its key and its value) and its nonce",
@@ -32,6 +36,8 @@ public final class TermsBoundaryTest {
     }
 
     private static void treeAndMarks() {
+        check.sentence("THE TREE has 16 leaves. Above them are 8 nodes, then 4, then 2, then the ROOT",
+                TermsBoundaryTest::levelWidths);
         check.sentence("leaf k is the commitment of the note at place k, 0 if there is none",
                 TermsBoundaryTest::leaves);
         check.sentence("each is the hash of the left and the right one of the two that are under it",
@@ -54,7 +60,11 @@ public final class TermsBoundaryTest {
                 TermsBoundaryTest::cellNames);
         check.sentence("A block j (0 .. 9) has two INPUTS a and b, and its cells e0 .. e8 are the cells "
                 + "35 + 9j .. 43 + 9j", TermsBoundaryTest::blockInputs);
+        check.sentence("Its NINE CONDITIONS, in this order", TermsBoundaryTest::nineConditions);
         check.sentence("THE CONDITIONS are numbered 0 .. 114", TermsBoundaryTest::conditionNumbers);
+        check.sentence("14 .. 22, 23 .. 31, 32 .. 40: the nine of block 0, of block 1, of block 2. 41 + 11i .. "
+                + "51 + 11i, for the levels i. 85 .. 93, 94 .. 102, 103 .. 111: the nine of block 7, of block 8, of "
+                + "block 9", TermsBoundaryTest::conditionsOneByOne);
         check.sentence("0 .. 3: turn i * turn i = turn i", TermsBoundaryTest::turnConditions);
         check.sentence("4 .. 11: bit k * bit k = bit k", TermsBoundaryTest::bitConditions);
         check.sentence("12: the sum of 2^k * bit k, over k = 0 .. 7, = amount",
@@ -156,6 +166,20 @@ public final class TermsBoundaryTest {
         }
     }
 
+    /** The numbers were worked out by hand: the cubes of a + 0 + 11, and so on, for a = 100. */
+    private static void salts() {
+        int[] cubes = {56891, 42252, 19697, 24808};
+        NotePool x = new NotePool();
+        x.deposit(0, 7, 0);
+        x.load(0, 0, 7, 0, 0);
+        for (int i = 0; i < 4; i++) {
+            check.due("x after salt " + i, x.get(36 + 2 * i), cubes[i]);
+        }
+        check.due("hash(100, 0)", x.hash(100, 0), 24808 + 100);
+        check.due("hash(991, 255)", x.hash(991, 255), 24347 + 991 + 255);
+        check.due("hash(65536, 65536)", x.hash(65536, 65536), 64297 - 1 - 1);
+    }
+
     private static void secrets() {
         NotePool x = new NotePool();
         for (int account = 0; account < 4; account++) {
@@ -226,6 +250,18 @@ public final class TermsBoundaryTest {
             Pools.payToKey(x, key);
             check.due("submit()", x.submit(), 1);
             check.due("owner with the key " + key, x.owner(1), -1);
+        }
+    }
+
+    private static void levelWidths() {
+        int[] widths = {16, 8, 4, 2, 1};
+        for (int level = -1; level <= 5; level++) {
+            NotePool x = Pools.full();
+            int there = 0;
+            for (int number = -20; number < 40; number++) {
+                there += x.node(level, number) >= 0 ? 1 : 0;
+            }
+            check.due("nodes of level " + level, there, level < 0 || level > 4 ? 0 : widths[level]);
         }
     }
 
@@ -421,11 +457,52 @@ public final class TermsBoundaryTest {
         return cell == 9 ? 12 : cell == 4 ? 13 : 111 + cell;
     }
 
+    /** Worked out by hand for block 0 of the secret 100, and block 8 of the key 991 and the amount 255. */
+    private static void nineConditions() {
+        int[][] due = {{12321, 56891, 52742, 42252, 10566, 19697, 48243, 24808, 24908},
+            {7161, 22808, 3624, 38721, 39400, 41005, 50804, 24347, 25593}};
+        int[] firstCell = {35, 107};
+        int[] firstCondition = {14, 94};
+        NotePool x = new NotePool();
+        x.deposit(0, 255, 0);
+        x.load(0, 1, 255, 0, 0);
+        check.due("fault()", x.fault(), -1);
+        for (int block = 0; block < 2; block++) {
+            for (int e = 8; e >= 0; e--) {
+                check.due("e" + e, x.get(firstCell[block] + e), due[block][e]);
+                x.set(firstCell[block] + e, Reference.mod(due[block][e] + 1));
+                check.due("fault() with e" + e + " one more", x.fault(), firstCondition[block] + e);
+            }
+            for (int e = 0; e < 9; e++) {
+                x.set(firstCell[block] + e, due[block][e]);
+            }
+            check.due("fault() when all is put right", x.fault(), -1);
+        }
+    }
+
+    /** All 115 are broken at first; each time the first one is mended, the next is the first. */
+    private static void conditionsOneByOne() {
+        NotePool x = Pools.withDeposits(6);
+        x.load(4, 2, 9, 5, 77);
+        int[] good = Forge.cellsOf(x);
+        int[] cellOf = new int[115];
+        for (int cell = 124; cell >= 1; cell--) {
+            if (Arrays.binarySearch(FREE, cell) < 0) {
+                cellOf[conditionOf(cell)] = cell;
+                x.set(cell, Reference.mod(good[cell] + 2 + 7 * cell));
+            }
+        }
+        for (int condition = 0; condition < 115; condition++) {
+            check.due("fault() when all before " + condition + " were mended", x.fault(), condition);
+            x.set(cellOf[condition], good[cellOf[condition]]);
+        }
+        check.due("fault() when all were mended", x.fault(), -1);
+    }
+
     private static void conditionNumbers() {
         boolean[] seen = new boolean[115];
-        int[] free = {5, 6, 7, 8, 10, 11, 12, 13, 14};
         for (int cell = 1; cell < 125; cell++) {
-            if (Arrays.binarySearch(free, cell) >= 0) {
+            if (Arrays.binarySearch(FREE, cell) >= 0) {
                 continue;
             }
             NotePool x = Pools.withDeposits(6);
