@@ -2,8 +2,8 @@ import java.util.ArrayList;
 import java.util.List;
 
 /**
- * Every call with every choice of arguments at and beside the ends of every range that the document
- * names, on pools in several states, held against the Reference.
+ * Every call with arguments at, beside and far from the ends of the ranges that the document names, in
+ * every combination of a fixed list, on pools in three states, held against the Reference.
  */
 public final class AnyArgumentsTest {
     private static final Check check = new Check();

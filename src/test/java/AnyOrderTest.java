@@ -1,8 +1,8 @@
 import java.util.List;
 
 /**
- * Every row of a few calls, in every order and with repetitions, from several pools to begin with: each
- * answer, and all that the face shows at the end, held against the Reference.
+ * Every row of three or four out of a fixed list of calls, with repetitions, from several pools to begin
+ * with: each answer, and all that the face shows at the end, held against the Reference.
  */
 public final class AnyOrderTest {
     private static final Check check = new Check();
@@ -10,7 +10,7 @@ public final class AnyOrderTest {
     private record Step(Call call, int... arguments) {
     }
 
-    /** The two deposits with the nonce 8 make notes that are alike; the note with the nonce 823 is 0 in its leaf. */
+    /** Made twice, the deposit with the nonce 8 makes notes that are alike; the one with 823 has the commitment 0. */
     private static final List<Step> STEPS = List.of(
             new Step(Call.DEPOSIT, 0, 40, 8), new Step(Call.DEPOSIT, 0, 0, 823), new Step(Call.DEPOSIT, 3, 255, 65536),
             new Step(Call.DEPOSIT, 4, 40, 8), new Step(Call.LOAD, 0, 1, 33, 7, 5), new Step(Call.LOAD, 0, 0, 40, 1, 8),
